@@ -70,6 +70,10 @@ final class AddressesTest {
         finds("kind 1, a high word", chain(Words.pointer(3, 4095, 0) | idle), 3, 4095, 4);
         finds("kind 2, a high word", chain(Words.kind(2, 0, 4095, 0) | idle).pointTo(0, 5, 4095, 0), 5, 4094, 4);
         finds("the word 0", chain(0), 2, 0, 4);
+        Bench on = chain(Words.goesOn(Words.number(Words.kind(2, 0, 1, 0), 3)), 0, Words.pointer(12, 34, 0));
+        finds("kind 2 that goes on", on.pointTo(3, 2, 1, 5), 12, 34, 5);
+        // The ring is that of the pointer, as are segment and word.
+        finds("kind 2 has no ring of its own", chain(Words.kind(2, 0, 8, 7)).pointTo(0, 7, 0, 5), 7, 8, 5);
         for (int kind = 3; kind < 8; kind++) {
             chain(Words.kind(kind, 1, 1, 1)).at(1, 0, 2).run(1).fault("kind " + kind, 6, 1, 0);
             chain(Words.goesOn(Words.kind(kind, 1, 1, 1))).run(1).fault("kind " + kind + " that goes on", 6, 1, 0);
