@@ -171,6 +171,22 @@ final class EdgesOfAddressesTest {
         for (int length = 6; length <= 8; length++) {
             chain(length, Words.pointer(4, 5, 3)).run(1).fault("a chain of " + length, 6, 1, 0);
         }
+        // Of words of kind 2 and 1 that go on, the fifth is the last as well.
+        for (int kind = 1; kind <= 2; kind++) {
+            long on = Words.goesOn(Words.number(Words.kind(kind, 6, AT + 1, 0), 3));
+            for (int length = 2; length <= 6; length++) {
+                Bench b = chain(1, 0).pointTo(3, 6, 0, 0);
+                for (int k = 0; k < length - 1; k++) {
+                    b.x.poke(Bench.DATA + AT + k, on + k);
+                }
+                b.x.poke(Bench.DATA + AT + length - 1, Words.kind(0, 0, 5, 0));
+                if (length < 6) {
+                    found(length + " of kind " + kind, b, 6, 5, 0);
+                } else {
+                    b.run(1).fault("six of kind " + kind, 6, 1, 0);
+                }
+            }
+        }
         // It would be out of reach, and is not looked for.
         Bench b = chain(5, Words.goesOn(Words.pointer(3, 0, 7)));
         b.run(1).fault("a sixth word out of reach", 6, 1, 0).copies("it", 0, 6, 1).copies("it", 1);

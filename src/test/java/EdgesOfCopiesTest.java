@@ -219,6 +219,10 @@ final class EdgesOfCopiesTest {
         b.x.go();
         b.segment(11, Words.first(64 * 31, 9), FREE);
         write(clear(b), 11, 0).word("the same frame, not as a page", 901, Words.THERE | 31);
+        Bench c = bench().words(600, 1);
+        look(c, 12, 0);
+        write(c, 4, 5).word("BASE of a segment that is not paged", 600, 1).word("and the page", 900, page);
+        write(c, 12, 5).word("the copy was not CHANGED by that", 900, page | Words.CHANGED);
     }
 
     /** "and the copy, ahead of that": what is written last stays, though it is the page's own word. */

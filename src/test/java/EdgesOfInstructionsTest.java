@@ -229,6 +229,9 @@ final class EdgesOfInstructionsTest {
                 b.fault("kind " + kind, 6, 1, 1);
             }
         }
+        inRing(0, Words.op(Words.RTN, 2, 0)).data(0).run(1).fault("RTN by the word 0", 6, 1, 1);
+        inRing(0, Words.op(Words.RTN, 2, 0)).data(Words.TOP).run(1).fault("RTN by the highest word", 6, 1, 1);
+        inRing(0, Words.op(Words.RTN, 2, 0)).data(1L << 33).run(1).counter("RTN by the least of kind 1", 0, 0, 0);
     }
 
     /** "These only in ring 0: FAULT 7", of 36 to 38 alone. */

@@ -6,6 +6,7 @@ final class EdgesOfWordsTest {
         wordsHave36Bits();
         sumsAreModulo2To36();
         oneMoreIsModulo2To36();
+        allBitsAreLoadedAndStored();
         indexesAreModulo4096();
         bitsOfRegisters();
         bitsOfIndirectWords();
@@ -81,6 +82,18 @@ final class EdgesOfWordsTest {
         for (long word : new long[] {0, TWO_36 - 2, TWO_36 - 1}) {
             Bench b = new Bench().code(Words.op(Words.AOS, 2, 0)).data(word, 7);
             b.run(1).word("AOS of " + word, Bench.DATA, (word + 1) % TWO_36).word("the next", Bench.DATA + 1, 7);
+        }
+    }
+
+    /** "1 LDA, 2 STA", "9 LDQ, 10 STQ": of no bits and of all. */
+    private static void allBitsAreLoadedAndStored() {
+        for (long word : new long[] {0, 1, 1L << 35, TWO_36 - 1}) {
+            Bench b = new Bench().data(word, ~word, word, ~word);
+            b.code(Words.op(Words.LDA, 2, 0), Words.op(Words.LDQ, 2, 1), Words.op(Words.STQ, 2, 2), Words.op(Words.STA, 2, 3));
+            long other = ~word & TWO_36 - 1;
+            b.run(2).register("LDA of " + word, Words.A, word).register("LDQ of " + other, Words.Q, other);
+            b.run(2).word("STQ", Bench.DATA + 2, other).word("STA", Bench.DATA + 3, word);
+            b.register("A stays", Words.A, word).register("Q stays", Words.Q, other);
         }
     }
 

@@ -1,5 +1,8 @@
 /** Promises 6, 9 and 10: which fault, what of it is SAVED, and that nothing else has changed. */
 final class FaultsTest {
+    /** Descriptors, some of segments 0 to 2, and of the pages of segment 3. */
+    private static final int[][] PLACES = {{0, 32}, {64, 32}, {Bench.PAGES + 2, 2}, {Bench.CODE, 4}, {Bench.DATA, 32}, {Bench.FRAMES, 70}};
+
     public static void main(String[] args) {
         firstThatHolds();
         fetches();
@@ -72,27 +75,15 @@ final class FaultsTest {
             Bench b = new Bench().code(0, Words.indexed(Words.indirect(Words.op(what, 3, 0)), 1)).at(1, 1, 2);
             b.x.poke(Bench.FRAMES + 2, Words.goesOn(Words.pointer(3, 64, 0)));
             b.x.poke(Bench.FRAMES + 64, Words.kind(7, 0, 0, 0));
-            long[] memory = new long[4096];
-            for (int address = 0; address < 4096; address++) {
-                memory[address] = b.x.peek(address);
-            }
             for (int k = 0; k < 6; k++) {
                 b.x.set(k, k + 1);
             }
             b.x.set(Words.X + 1, 2);
-            long[] registers = new long[10];
-            for (int k = 0; k < 10; k++) {
-                registers[k] = b.x.get(k);
-            }
-            b.run(1).fault("instruction " + what, 6, 1, 1);
-            for (int k = 0; k < 10; k++) {
-                b.register("instruction " + what, k, registers[k]);
-            }
-            memory[Bench.PAGES] |= Words.USED;
-            memory[Bench.PAGES + 1] |= Words.USED;
-            for (int address = 0; address < 4096; address++) {
-                b.word("instruction " + what, address, memory[address]);
-            }
+            Snapshot before = new Snapshot(b.x, PLACES);
+            String call = "instruction " + what;
+            b.run(1).fault(call, 6, 1, 1);
+            before.stays(call, "get(10)", "state", "saved", "copy");
+            b.word(call, Bench.PAGES, Words.THERE | Words.USED | 20).word(call, Bench.PAGES + 1, Words.THERE | Words.USED | 21);
             b.copies("copies stay", 0, 3, 1).copies("copies stay", 1, 193, 192);
         }
     }

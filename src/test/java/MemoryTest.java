@@ -1,13 +1,9 @@
 /** Promises 2 and 3. */
 final class MemoryTest {
     public static void main(String[] args) {
+        allOfMemory();
         RingProcessor x = new RingProcessor();
-        for (int address = 0; address < 4096; address++) {
-            x.poke(address, 3L * address + 1);
-        }
-        for (int address = 0; address < 4096; address++) {
-            Due.is("peek(" + address + ")", x.peek(address), 3L * address + 1);
-        }
+        x.poke(101, 304);
         pokedAs(x, 0, 0, 0);
         pokedAs(x, 4095, Words.TOP, Words.TOP);
         pokedAs(x, 100, 1L << 36, 0);
@@ -23,6 +19,26 @@ final class MemoryTest {
         Due.is("peek(0) after wrong pokes", x.peek(0), 0);
         Due.is("peek(4095) after wrong pokes", x.peek(4095), Words.TOP);
         Due.end();
+    }
+
+    /** An object is used for 512 calls at most: sixteen, of 256 words each that stand far from one another. */
+    private static void allOfMemory() {
+        for (int part = 0; part < 16; part++) {
+            RingProcessor x = new RingProcessor();
+            for (int address = part; address < 4096; address += 16) {
+                x.poke(address, 3L * address + 1);
+            }
+            for (int address = part; address < 4096; address += 16) {
+                Due.is("peek(" + address + ")", x.peek(address), 3L * address + 1);
+            }
+        }
+        // And no word beside it.
+        for (int address = 1; address < 4095; address += 31) {
+            RingProcessor x = new RingProcessor();
+            x.poke(address, 7);
+            Due.is("the word ahead of " + address, x.peek(address - 1), 0);
+            Due.is("the word behind " + address, x.peek(address + 1), 0);
+        }
     }
 
     private static void pokedAs(RingProcessor x, int address, long v, long want) {

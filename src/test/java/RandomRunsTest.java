@@ -1,7 +1,15 @@
 /** Runs of calls of all kinds, each answer held against PlainModel's. The same runs each time. */
 final class RandomRunsTest {
-    private static final int RUNS = 1500;
-    private static final int CALLS = 250;
+    private static final int RUNS = 8000;
+    /** With what lays memory out, what is asked behind each, and what is asked at the end: 512 calls at most. */
+    private static final int CALLS = 40;
+    private static final int ASKED_BEHIND_EACH = 2;
+    private static final int PEEKS_AT_THE_END = 50;
+    /** Behind the descriptors: pages' words, then frames 1 to 3. All else is 0. */
+    private static final int FIRST_PAGE_WORD = 32;
+    private static final int FIRST_WORD = 64;
+    private static final int END = 256;
+    private static final int QUESTIONS = 26;
 
     private long seed;
     private RingProcessor x;
@@ -16,7 +24,7 @@ final class RandomRunsTest {
         }
         // The runs are of use only if they come by every fault and interrupt.
         for (int fault = 1; fault < 12; fault++) {
-            Due.is("runs that came by fault " + fault, test.faults[fault] > 20 ? 1 : 0, 1);
+            Due.is("runs that came by fault " + fault, test.faults[fault] > 500 ? 1 : 0, 1);
         }
         Due.end();
     }
@@ -37,9 +45,15 @@ final class RandomRunsTest {
         for (int call = 0; call < CALLS; call++) {
             String what = "random run " + run + ", call " + call;
             anyCall(what);
-            same(what);
+            for (int k = 0; k < ASKED_BEHIND_EACH; k++) {
+                same(what, below(QUESTIONS));
+            }
         }
-        for (int address = 0; address < 4096; address++) {
+        for (int question = 0; question < QUESTIONS; question++) {
+            same("random run " + run, question);
+        }
+        for (int k = 0; k < PEEKS_AT_THE_END; k++) {
+            int address = oneIn(10) ? below(4096) : below(END);
             Due.is("random run " + run + ", peek(" + address + ")", x.peek(address), m.memory[address]);
         }
     }
@@ -54,12 +68,18 @@ final class RandomRunsTest {
         m.set(k, v);
     }
 
+    private void go() {
+        x.go();
+        m.stopped = false;
+        m.handles = false;
+    }
+
     private void layOut() {
         for (int s = 0; s < 16; s++) {
             anyDescriptor(s);
         }
-        for (int address = 32; address < 4096; address++) {
-            poke(address, address < 96 ? anyPage() : anyWord());
+        for (int address = FIRST_PAGE_WORD; address < END; address++) {
+            poke(address, address < FIRST_WORD ? anyPage() : anyWord());
         }
         for (int k = 0; k <= 10; k++) {
             set(k, anyPointer());
@@ -70,21 +90,22 @@ final class RandomRunsTest {
         int r1 = below(3);
         int r2 = r1 + below(8 - r1);
         int r3 = oneIn(4) ? below(8) : r2 + below(8 - r2);
-        int access = oneIn(3) ? below(8) * Words.READ : Words.ALL;
+        int access = oneIn(5) ? below(8) * Words.READ : Words.ALL;
         boolean paged = oneIn(2);
-        int base = paged && !oneIn(20) ? 32 + below(64) : below(4096);
-        int bound = oneIn(3) ? below(4096) : 4095;
+        int base = oneIn(20) ? below(4096) : paged ? FIRST_PAGE_WORD + below(24) : FIRST_WORD + below(100);
+        int bound = oneIn(4) ? below(oneIn(2) ? 256 : 4096) : 4095;
         long there = oneIn(8) ? 0 : Words.THERE;
         poke(2 * s, there | (paged ? Words.PAGED : 0) | (long) bound << 12 | base);
-        poke(2 * s + 1, Words.second(s == 0 ? 0 : r1, r2, r3, access, below(4096)));
+        poke(2 * s + 1, Words.second(s == 0 ? 0 : r1, r2, r3, access, below(oneIn(2) ? 256 : 4096)));
     }
 
     private long anyPage() {
-        return (oneIn(8) ? 0 : Words.THERE) | (oneIn(6) ? Words.CHANGED : 0) | (oneIn(6) ? Words.USED : 0) | below(64);
+        int frame = oneIn(10) ? below(64) : 1 + below(3);
+        return (oneIn(8) ? 0 : Words.THERE) | (oneIn(6) ? Words.CHANGED : 0) | (oneIn(6) ? Words.USED : 0) | frame;
     }
 
     private int anyWordNumber() {
-        return oneIn(3) ? below(4096) : below(256);
+        return oneIn(6) ? below(4096) : below(160);
     }
 
     private long anyPointer() {
@@ -104,16 +125,12 @@ final class RandomRunsTest {
 
     private void anyCall(String what) {
         switch (below(12)) {
-            case 0 -> poke(96 + below(4000), anyWord());
-            case 1 -> poke(32 + below(64), anyPage());
-            case 2 -> anyDescriptor(below(16));
+            case 0 -> poke(FIRST_WORD + below(END - FIRST_WORD), anyWord());
+            case 1 -> poke(FIRST_PAGE_WORD + below(32), anyPage());
+            case 2 -> poke(below(32), m.memory[below(32)]);
             case 3 -> set(below(10), oneIn(2) ? anyPointer() : below(3) - 1L);
             case 4 -> set(Words.COUNTER, anyPointer());
-            case 5 -> {
-                x.go();
-                m.stopped = false;
-                m.handles = false;
-            }
+            case 5 -> go();
             case 6 -> {
                 int k = below(4);
                 x.interrupt(k);
@@ -127,6 +144,9 @@ final class RandomRunsTest {
                 Due.is(what + ": reach", x.reach(s, w, ring, way), m.reach(s, w, ring, way));
             }
             default -> {
+                if (m.stopped && oneIn(2)) {
+                    go();
+                }
                 int n = oneIn(10) ? below(101) : 1 + below(3);
                 Due.is(what + ": run(" + n + ")", x.run(n), m.run(n));
                 faults[m.fault]++;
@@ -134,18 +154,19 @@ final class RandomRunsTest {
         }
     }
 
-    private void same(String what) {
-        for (int k = 0; k <= 10; k++) {
-            Due.is(what + ": get(" + k + ")", x.get(k), m.registers[k]);
-        }
-        int[] state = {m.stopped ? 1 : 0, m.handles ? 1 : 0, m.fault, m.faultSegment, m.faultWord, m.asked};
-        for (int k = 0; k < state.length; k++) {
-            Due.is(what + ": state(" + k + ")", x.state(k), state[k]);
-        }
-        Due.is(what + ": saved()", x.saved(), m.saved);
-        for (int k = 0; k < 4; k++) {
-            Due.is(what + ": copy(" + k + ", 0)", x.copy(k, 0), PlainModel.copy(m.descriptors, k));
-            Due.is(what + ": copy(" + k + ", 1)", x.copy(k, 1), PlainModel.copy(m.pageWords, k));
+    /** Registers are questions 0 .. 10, then come states, saved(), and copies. */
+    private void same(String what, int question) {
+        if (question <= 10) {
+            Due.is(what + ": get(" + question + ")", x.get(question), m.registers[question]);
+        } else if (question <= 16) {
+            int[] state = {m.stopped ? 1 : 0, m.handles ? 1 : 0, m.fault, m.faultSegment, m.faultWord, m.asked};
+            Due.is(what + ": state(" + (question - 11) + ")", x.state(question - 11), state[question - 11]);
+        } else if (question == 17) {
+            Due.is(what + ": saved()", x.saved(), m.saved);
+        } else if (question <= 21) {
+            Due.is(what + ": copy(" + (question - 18) + ", 0)", x.copy(question - 18, 0), PlainModel.copy(m.descriptors, question - 18));
+        } else {
+            Due.is(what + ": copy(" + (question - 22) + ", 1)", x.copy(question - 22, 1), PlainModel.copy(m.pageWords, question - 22));
         }
     }
 }
