@@ -267,6 +267,13 @@ final class EdgesOfInstructionsTest {
         b.x.poke(Bench.CODE + 1, Words.op(Words.RCU, 0));
         b.at(1, 1, 0).run(1).fault("RCU again", 6, 1, 1);
         Due.is("saved", b.x.saved(), Words.pointer(1, 1, 0));
+        // What is done between leaves what was SAVED alone.
+        Bench c = inRing(6, Words.op(50, 0)).run(1);
+        c.words(64 + 22, Words.op(Words.EAA, 5), Words.op(Words.LDQ, 2, 0), Words.op(Words.CALL, 2), Words.op(Words.RCU, 0));
+        c.words(64 + 2, Words.indirect(Words.op(Words.EPP, 8)), Words.op(Words.RTN, 9), 0, 0, 0, 0, 0, Words.pointer(0, 25, 0));
+        c.run(5);
+        Due.is("saved", c.x.saved(), Words.pointer(1, 1, 6));
+        c.counter("RTN when ring 6 was SAVED", 0, 25, 0).run(1).counter("RCU behind others", 1, 1, 6);
         // Behind go() neither.
         b.run(1).counter("RCU of that", 1, 1, 0).run(1).x.go();
         b.run(1).told("RCU behind go()", 6, 0, 22);
